@@ -9,6 +9,9 @@ public final class MergeRows {
     private static final int LINES = 60;
     private static final int VERSIONS = 30;
 
+    /** The places of a row and its end. */
+    private static final int PLACES = LINES + 1;
+
     /** Pairs or anchors leave at most one part more than a row has lines. */
     private static final int PARTS = LINES + 1;
 
@@ -30,7 +33,7 @@ public final class MergeRows {
         for (int k = 0; k < ROWS; k++) {
             rows[k] = new Row(LINES);
         }
-        int[] lengths = new int[PARTS * PARTS];
+        int[] lengths = new int[PLACES * PLACES];
         Common scratch = new Common(lengths);
         Common secondScratch = new Common(lengths);
         latestCommon = new Common(lengths);
@@ -235,25 +238,30 @@ public final class MergeRows {
         }
 
         private void measure(Row a, Row b) {
-            for (int i = a.count; i >= 0; i--) {
-                for (int j = b.count; j >= 0; j--) {
-                    lengths[i * PARTS + j] = lengthFrom(a, i, b, j);
+            clearEnds(a.count, b.count);
+            for (int i = a.count - 1; i >= 0; i--) {
+                for (int j = b.count - 1; j >= 0; j--) {
+                    int here = i * PLACES + j;
+                    lengths[here] = a.lines[i] == b.lines[j]
+                            ? 1 + lengths[here + PLACES + 1]
+                            : Math.max(lengths[here + PLACES], lengths[here + 1]);
                 }
             }
         }
 
-        private int lengthFrom(Row a, int i, Row b, int j) {
-            if (i >= a.count || j >= b.count) {
-                return 0;
+        /** The rows measured before may have been longer. */
+        private void clearEnds(int endA, int endB) {
+            for (int i = 0; i <= endA; i++) {
+                lengths[i * PLACES + endB] = 0;
             }
-            if (a.lines[i] == b.lines[j]) {
-                return 1 + lengths[(i + 1) * PARTS + j + 1];
+            for (int j = 0; j <= endB; j++) {
+                lengths[endA * PLACES + j] = 0;
             }
-            return Math.max(lengths[(i + 1) * PARTS + j], lengths[i * PARTS + j + 1]);
         }
 
         private boolean losesNoPair(int placeA, int nextB, int placeB) {
-            return 1 + lengths[(placeA + 1) * PARTS + placeB + 1] == lengths[placeA * PARTS + nextB];
+            int most = lengths[placeA * PLACES + nextB];
+            return 1 + lengths[(placeA + 1) * PLACES + placeB + 1] == most;
         }
 
         private void addPair(int placeA, int placeB) {
@@ -314,8 +322,8 @@ public final class MergeRows {
         int from;
         int end;
 
-        Part(Row first) {
-            row = first;
+        Part() {
+            row = new Row(0);
             from = 0;
             end = 0;
         }
@@ -369,9 +377,9 @@ public final class MergeRows {
             conflictCount = 0;
             baseAndLeft = scratch;
             baseAndRight = secondScratch;
-            basePart = new Part(outcome);
-            leftPart = new Part(outcome);
-            rightPart = new Part(outcome);
+            basePart = new Part();
+            leftPart = new Part();
+            rightPart = new Part();
         }
 
         void run(Row base, Row left, Row right) {

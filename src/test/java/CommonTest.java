@@ -1,3 +1,6 @@
+import java.util.ArrayList;
+import java.util.List;
+
 /** Promises 6 to 9: common, pair, hunks and hunk. */
 public final class CommonTest {
     private static final int[] NO_ROWS = {-1, 6, Integer.MIN_VALUE, Integer.MAX_VALUE};
@@ -7,6 +10,8 @@ public final class CommonTest {
         pairs(check);
         hunks(check);
         longRows(check);
+        manyHunks(check);
+        allShortRows(check);
         keptAnswers(check);
         wrongInputs(check);
         check.finish();
@@ -88,6 +93,53 @@ public final class CommonTest {
         check.same("taken out again", z.hunks(1, 0), 30);
         check.same("hunk 29", z.hunk(29, 0) + "," + z.hunk(29, 1) + "," + z.hunk(29, 2) + "," + z.hunk(29, 3),
                 "58,1,29,0");
+    }
+
+    /** 40 is the most: 40 pairs, with a line more of a and one of b by turns ahead of them. */
+    private static void manyHunks(Check check) {
+        MergeRows x = new MergeRows();
+        for (int k = 0; k < 40; k++) {
+            x.put(k % 2, 100 + k);
+            x.put(0, k);
+            x.put(1, k);
+        }
+        check.same("40 hunks", x.hunks(0, 1), 40);
+        check.same("the last hunk", Check.asked(40, 4, x::hunk).endsWith(" 59,0,58,1"), true);
+        check.same("patched", x.patch(0, 1, 0, 2), 0);
+        check.lines("b came of it", x, 2, Check.read(x, 1));
+    }
+
+    /** Every two rows of up to four lines of two kinds, behind a common() of longer rows. */
+    private static void allShortRows(Check check) {
+        for (int a = 1; a < 32; a++) {
+            for (int b = 1; b < 32; b++) {
+                MergeRows x = new MergeRows();
+                Check.fill(x, 0, 1, 1, 1, 1, 1, 1);
+                check.same("long rows", x.common(0, 0), 6);
+                Check.fill(x, 0, bits(a));
+                Check.fill(x, 1, bits(b));
+                List<int[]> due = PlainModel.commonOf(listed(bits(a)), listed(bits(b)));
+                String got = Check.asked(x.common(0, 1), 2, x::pair);
+                check.same("short rows", got, Check.asked(due.size(), 2, (k, side) -> due.get(k)[side]));
+            }
+        }
+    }
+
+    /** The bits below the highest one, each a line. */
+    private static int[] bits(int number) {
+        int[] lines = new int[31 - Integer.numberOfLeadingZeros(number)];
+        for (int k = 0; k < lines.length; k++) {
+            lines[k] = number >> k & 1;
+        }
+        return lines;
+    }
+
+    private static List<Integer> listed(int[] lines) {
+        List<Integer> list = new ArrayList<>();
+        for (int line : lines) {
+            list.add(line);
+        }
+        return list;
     }
 
     /** pair() and hunk() tell of the latest common() and hunks(), whatever came in between. */

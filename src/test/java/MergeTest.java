@@ -11,6 +11,7 @@ public final class MergeTest {
         fullOutcome(check);
         manyConflicts(check);
         keptConflicts(check);
+        oneAfterAnother(check);
         wrongInputs(check);
         check.finish();
     }
@@ -144,6 +145,24 @@ public final class MergeTest {
         check.refused("no more of them", Check.NO_INDEX, () -> x.conflict(1, 0));
         check.same("no conflict", x.merge(1, 1, 1, 3), 0);
         check.refused("none is left", Check.NO_INDEX, () -> x.conflict(0, 0));
+    }
+
+    private static void oneAfterAnother(Check check) {
+        MergeRows x = filled(row(1, 2, 3), row(1, 8, 3), row(9, 2, 3));
+        for (int round = 0; round < 4; round++) {
+            check.same("one conflict", Check.asked(x.merge(0, 1, 2, 3), 3, x::conflict), "0,2,2");
+            check.lines("outcome", x, 3, 1, 8, 9, 2, 3);
+            check.same("none", x.merge(0, 1, 0, 3), 0);
+            check.lines("left's", x, 3, 1, 8, 3);
+            check.same("none", x.merge(0, 0, 2, 3), 0);
+            check.lines("right's", x, 3, 9, 2, 3);
+        }
+        // The right row's pairs end ahead of the left one's.
+        Check.fill(x, 1, 1, 2, 3, 4);
+        Check.fill(x, 0, 1, 2, 3, 4);
+        Check.fill(x, 2, 1);
+        check.same("right takes out", x.merge(0, 1, 2, 3), 0);
+        check.lines("one line is left", x, 3, 1);
     }
 
     private static void wrongInputs(Check check) {

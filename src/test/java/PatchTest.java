@@ -11,6 +11,7 @@ public final class PatchTest {
         notAheadOfTheLast(check);
         intoOneOfThem(check);
         fullOutcome(check);
+        oneAfterAnother(check);
         wrongInputs(check);
         check.finish();
     }
@@ -153,6 +154,21 @@ public final class PatchTest {
         check.refused("no such row ahead of no room", Check.NO_ARGUMENT, () -> x.patch(0, 1, 2, -1));
         check.same("60 for 60", x.patch(2, 1, 2, 4), 0);
         check.lines("60 for 60", x, 4, Check.rising(0, 60));
+    }
+
+    private static void oneAfterAnother(Check check) {
+        MergeRows x = filled(row(1, 2, 3), row(1, 9, 3), row(1, 2, 3));
+        Check.fill(x, 4, 1, 2);
+        for (int round = 0; round < 3; round++) {
+            check.same("none rejected", x.patch(0, 1, 2, 3), 0);
+            check.lines("done", x, 3, 1, 9, 3);
+            check.same("one rejected", x.patch(0, 1, 4, 3), 1);
+            check.lines("as c was", x, 3, 1, 2);
+        }
+        // Row 4 had a line behind its last one before.
+        Check.fill(x, 4, 1, 2, 3);
+        Check.fill(x, 4, 1, 2);
+        check.same("a line that is gone does not fit", x.patch(0, 1, 4, 3), 1);
     }
 
     private static void wrongInputs(Check check) {
