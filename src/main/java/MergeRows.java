@@ -180,7 +180,7 @@ public final class MergeRows {
         }
 
         void addPart(Row other, int from, int end) {
-            for (int k = from; k < end; k++) {
+            for (int k = Math.max(from, 0); k < end && k < other.count; k++) {
                 add(other.lines[k]);
             }
         }
@@ -346,8 +346,8 @@ public final class MergeRows {
             if (length() != other.length()) {
                 return false;
             }
-            for (int k = 0; k < length(); k++) {
-                if (row.lines[from + k] != other.row.lines[other.from + k]) {
+            for (int k = from; k < end && k < row.count; k++) {
+                if (!other.row.hasAt(other.from + k - from, row.lines[k])) {
                     return false;
                 }
             }
@@ -403,7 +403,7 @@ public final class MergeRows {
                 }
                 if (r < baseAndRight.count && baseAndRight.placesA[r] == place) {
                     mergeParts(place, baseAndLeft.placesB[l], baseAndRight.placesB[r]);
-                    outcome.add(base.lines[place]);
+                    outcome.addPart(base, place, place + 1);
                     stepPartsOverAnchor();
                 }
             }

@@ -23,7 +23,26 @@ final class Check {
         same(what, answer(call), due.getSimpleName());
     }
 
-    void lines(String what, MergeRows x, int row, int... due) {
+    /** What was done on an object before the call that is looked at. */
+    interface Past {
+        void on(Face x);
+    }
+
+    interface Call {
+        int on(Face x);
+    }
+
+    /** The call throws, and the object tells what one with the same past but without the call tells. */
+    void refusedUnchanged(String what, Class<? extends RuntimeException> due, Past past, Call call) {
+        Counted with = new Counted();
+        Counted without = new Counted();
+        past.on(with);
+        past.on(without);
+        refused(what, due, () -> call.on(with));
+        same(what + ", and nothing has changed", Told.of(with), Told.of(without));
+    }
+
+    void lines(String what, Face x, int row, int... due) {
         same(what, Arrays.toString(read(x, row)), Arrays.toString(due));
     }
 
@@ -48,14 +67,14 @@ final class Check {
         }
     }
 
-    static void fill(MergeRows x, int row, int... lines) {
+    static void fill(Face x, int row, int... lines) {
         x.clear(row);
         for (int line : lines) {
             x.put(row, line);
         }
     }
 
-    static int[] read(MergeRows x, int row) {
+    static int[] read(Face x, int row) {
         int[] lines = new int[x.size(row)];
         for (int k = 0; k < lines.length; k++) {
             lines[k] = x.get(row, k);

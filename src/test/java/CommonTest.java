@@ -18,14 +18,14 @@ public final class CommonTest {
     }
 
     private static String pairsOf(int[] a, int[] b) {
-        MergeRows x = new MergeRows();
+        Counted x = new Counted();
         Check.fill(x, 0, a);
         Check.fill(x, 1, b);
         return Check.asked(x.common(0, 1), 2, x::pair);
     }
 
     private static String hunksOf(int[] a, int[] b) {
-        MergeRows x = new MergeRows();
+        Counted x = new Counted();
         Check.fill(x, 4, a);
         Check.fill(x, 5, b);
         return Check.asked(x.hunks(4, 5), 4, x::hunk);
@@ -50,7 +50,7 @@ public final class CommonTest {
         check.same("not the greedy pair", pairsOf(row(2, 2, 1, 2, 1), row(1, 2)), "2,0 3,1");
         check.same("extreme lines", pairsOf(row(Integer.MIN_VALUE, -1, Integer.MAX_VALUE),
                 row(-1, Integer.MIN_VALUE, Integer.MAX_VALUE)), "0,1 2,2");
-        MergeRows x = new MergeRows();
+        Counted x = new Counted();
         Check.fill(x, 3, 4, 4, 5);
         check.same("a row with itself", Check.asked(x.common(3, 3), 2, x::pair), "0,0 1,1 2,2");
     }
@@ -69,14 +69,14 @@ public final class CommonTest {
     }
 
     private static void longRows(Check check) {
-        MergeRows x = new MergeRows();
+        Counted x = new Counted();
         Check.fill(x, 0, Check.rising(0, 60));
         Check.fill(x, 1, Check.rising(0, 60));
         check.same("60 pairs", x.common(0, 1), 60);
         check.same("the last pair", x.pair(59, 0) + "," + x.pair(59, 1), "59,59");
         check.refused("pair 60", Check.NO_INDEX, () -> x.pair(60, 0));
         check.same("no hunks", x.hunks(0, 1), 0);
-        MergeRows y = new MergeRows();
+        Counted y = new Counted();
         for (int k = 0; k < 60; k++) {
             y.put(0, k % 2 == 0 ? 1000 + k : k);
             y.put(1, k % 2 == 0 ? 2000 + k : k);
@@ -84,7 +84,7 @@ public final class CommonTest {
         check.same("30 pairs", y.common(0, 1), 30);
         check.same("30 hunks", y.hunks(0, 1), 30);
         check.same("the last hunk", Check.asked(30, 4, y::hunk).endsWith("58,1,58,1"), true);
-        MergeRows z = new MergeRows();
+        Counted z = new Counted();
         Check.fill(z, 0, Check.rising(0, 30));
         for (int k = 0; k < 60; k++) {
             z.put(1, k % 2 == 0 ? 2000 + k : k / 2);
@@ -97,7 +97,7 @@ public final class CommonTest {
 
     /** 40 is the most: 40 pairs, with a line more of a and one of b by turns ahead of them. */
     private static void manyHunks(Check check) {
-        MergeRows x = new MergeRows();
+        Counted x = new Counted();
         for (int k = 0; k < 40; k++) {
             x.put(k % 2, 100 + k);
             x.put(0, k);
@@ -113,7 +113,7 @@ public final class CommonTest {
     private static void allShortRows(Check check) {
         for (int a = 1; a < 32; a++) {
             for (int b = 1; b < 32; b++) {
-                MergeRows x = new MergeRows();
+                Counted x = new Counted();
                 Check.fill(x, 0, 1, 1, 1, 1, 1, 1);
                 check.same("long rows", x.common(0, 0), 6);
                 Check.fill(x, 0, bits(a));
@@ -144,7 +144,7 @@ public final class CommonTest {
 
     /** pair() and hunk() tell of the latest common() and hunks(), whatever came in between. */
     private static void keptAnswers(Check check) {
-        MergeRows x = new MergeRows();
+        Counted x = new Counted();
         Check.fill(x, 0, 1, 2, 3, 4);
         Check.fill(x, 1, 1, 9, 3, 4);
         Check.fill(x, 2, 4, 5);
@@ -179,7 +179,7 @@ public final class CommonTest {
     }
 
     private static void wrongInputs(Check check) {
-        MergeRows x = new MergeRows();
+        Counted x = new Counted();
         Check.fill(x, 0, 1, 2);
         Check.fill(x, 1, 1, 3);
         x.common(0, 1);

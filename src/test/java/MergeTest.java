@@ -20,15 +20,15 @@ public final class MergeTest {
         return lines;
     }
 
-    private static MergeRows filled(int[] base, int[] left, int[] right) {
-        MergeRows x = new MergeRows();
+    private static Counted filled(int[] base, int[] left, int[] right) {
+        Counted x = new Counted();
         Check.fill(x, 0, base);
         Check.fill(x, 1, left);
         Check.fill(x, 2, right);
         return x;
     }
 
-    private static void merged(Check check, MergeRows x, String conflicts, int... lines) {
+    private static void merged(Check check, Counted x, String conflicts, int... lines) {
         int count = x.merge(0, 1, 2, 3);
         check.same("conflicts", Check.asked(count, 3, x::conflict), conflicts);
         check.refused("conflict behind the last", Check.NO_INDEX, () -> x.conflict(count, 0));
@@ -73,14 +73,14 @@ public final class MergeTest {
 
     private static void intoOneOfThem(Check check) {
         for (int to = 0; to < 3; to++) {
-            MergeRows x = filled(row(1, 2, 3), row(1, 8, 3), row(1, 9, 3, 4));
+            Counted x = filled(row(1, 2, 3), row(1, 8, 3), row(1, 9, 3, 4));
             check.same("conflicts", x.merge(0, 1, 2, to), 1);
             check.lines("outcome", x, to, 1, 8, 9, 3, 4);
             check.lines("base", x, 0, to == 0 ? row(1, 8, 9, 3, 4) : row(1, 2, 3));
             check.lines("left", x, 1, to == 1 ? row(1, 8, 9, 3, 4) : row(1, 8, 3));
             check.lines("right", x, 2, to == 2 ? row(1, 8, 9, 3, 4) : row(1, 9, 3, 4));
         }
-        MergeRows x = filled(row(1, 2, 3), row(), row());
+        Counted x = filled(row(1, 2, 3), row(), row());
         check.same("one row for all", x.merge(0, 0, 0, 0), 0);
         check.lines("unchanged", x, 0, 1, 2, 3);
         Check.fill(x, 3, 5, 5, 5, 5, 5);
@@ -89,7 +89,7 @@ public final class MergeTest {
     }
 
     private static void fullOutcome(Check check) {
-        MergeRows x = filled(row(), Check.rising(0, 30), Check.rising(100, 30));
+        Counted x = filled(row(), Check.rising(0, 30), Check.rising(100, 30));
         check.same("60 lines", x.merge(0, 1, 2, 3), 1);
         check.same("60 lines", x.size(3), 60);
         check.same("its last line", x.get(3, 59), 129);
@@ -113,7 +113,7 @@ public final class MergeTest {
     }
 
     private static void manyConflicts(Check check) {
-        MergeRows x = new MergeRows();
+        Counted x = new Counted();
         for (int k = 0; k < 29; k++) {
             x.put(0, k);
             x.put(1, k % 2 == 0 ? 100 + k : k);
@@ -128,7 +128,7 @@ public final class MergeTest {
     }
 
     private static void keptConflicts(Check check) {
-        MergeRows x = filled(row(1, 2, 3), row(1, 8, 3), row(1, 9, 9, 3));
+        Counted x = filled(row(1, 2, 3), row(1, 8, 3), row(1, 9, 9, 3));
         x.merge(0, 1, 2, 3);
         x.common(0, 1);
         x.hunks(0, 2);
@@ -148,7 +148,7 @@ public final class MergeTest {
     }
 
     private static void oneAfterAnother(Check check) {
-        MergeRows x = filled(row(1, 2, 3), row(1, 8, 3), row(9, 2, 3));
+        Counted x = filled(row(1, 2, 3), row(1, 8, 3), row(9, 2, 3));
         for (int round = 0; round < 4; round++) {
             check.same("one conflict", Check.asked(x.merge(0, 1, 2, 3), 3, x::conflict), "0,2,2");
             check.lines("outcome", x, 3, 1, 8, 9, 2, 3);
@@ -166,7 +166,7 @@ public final class MergeTest {
     }
 
     private static void wrongInputs(Check check) {
-        MergeRows x = filled(row(1, 2, 3), row(1, 8, 3), row(1, 9, 9, 3));
+        Counted x = filled(row(1, 2, 3), row(1, 8, 3), row(1, 9, 9, 3));
         x.merge(0, 1, 2, 3);
         for (int no : NO_ROWS) {
             check.refused("base", Check.NO_ARGUMENT, () -> x.merge(no, 1, 2, 3));

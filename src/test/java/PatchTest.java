@@ -20,15 +20,15 @@ public final class PatchTest {
         return lines;
     }
 
-    private static MergeRows filled(int[] a, int[] b, int[] c) {
-        MergeRows x = new MergeRows();
+    private static Counted filled(int[] a, int[] b, int[] c) {
+        Counted x = new Counted();
         Check.fill(x, 0, a);
         Check.fill(x, 1, b);
         Check.fill(x, 2, c);
         return x;
     }
 
-    private static void patched(Check check, MergeRows x, int rejected, int... lines) {
+    private static void patched(Check check, Counted x, int rejected, int... lines) {
         check.same("rejected", x.patch(0, 1, 2, 3), rejected);
         check.lines("outcome", x, 3, lines);
     }
@@ -123,21 +123,21 @@ public final class PatchTest {
 
     private static void intoOneOfThem(Check check) {
         for (int to = 0; to < 3; to++) {
-            MergeRows x = filled(row(1, 2, 3), row(1, 9, 9, 3), row(0, 1, 2, 3));
+            Counted x = filled(row(1, 2, 3), row(1, 9, 9, 3), row(0, 1, 2, 3));
             check.same("rejected", x.patch(0, 1, 2, to), 0);
             check.lines("outcome", x, to, 0, 1, 9, 9, 3);
             check.lines("a", x, 0, to == 0 ? row(0, 1, 9, 9, 3) : row(1, 2, 3));
             check.lines("b", x, 1, to == 1 ? row(0, 1, 9, 9, 3) : row(1, 9, 9, 3));
             check.lines("c", x, 2, to == 2 ? row(0, 1, 9, 9, 3) : row(0, 1, 2, 3));
         }
-        MergeRows x = filled(row(1, 2, 3), row(4), row());
+        Counted x = filled(row(1, 2, 3), row(4), row());
         Check.fill(x, 3, 5, 5, 5, 5, 5);
         check.same("a is c", x.patch(0, 1, 0, 3), 0);
         check.lines("b came of it", x, 3, 4);
     }
 
     private static void fullOutcome(Check check) {
-        MergeRows x = filled(row(), Check.rising(0, 30), Check.rising(100, 30));
+        Counted x = filled(row(), Check.rising(0, 30), Check.rising(100, 30));
         check.same("60 lines", x.patch(0, 1, 2, 3), 0);
         check.same("60 lines", x.size(3), 60);
         check.same("its last line", x.get(3, 59), 129);
@@ -157,7 +157,7 @@ public final class PatchTest {
     }
 
     private static void oneAfterAnother(Check check) {
-        MergeRows x = filled(row(1, 2, 3), row(1, 9, 3), row(1, 2, 3));
+        Counted x = filled(row(1, 2, 3), row(1, 9, 3), row(1, 2, 3));
         Check.fill(x, 4, 1, 2);
         for (int round = 0; round < 3; round++) {
             check.same("none rejected", x.patch(0, 1, 2, 3), 0);
@@ -172,7 +172,7 @@ public final class PatchTest {
     }
 
     private static void wrongInputs(Check check) {
-        MergeRows x = filled(row(1, 2, 3), row(1, 8, 3), row(1, 2, 3));
+        Counted x = filled(row(1, 2, 3), row(1, 8, 3), row(1, 2, 3));
         Check.fill(x, 3, 5);
         for (int no : NO_ROWS) {
             check.refused("a", Check.NO_ARGUMENT, () -> x.patch(no, 1, 2, 3));

@@ -2,7 +2,7 @@ import java.util.ArrayList;
 import java.util.List;
 
 /** The document's words done once more in the plainest way, on lists, to compare answers with. */
-final class PlainModel {
+final class PlainModel implements Face {
     private final List<List<Integer>> rows = new ArrayList<>();
     private List<int[]> pairs = new ArrayList<>();
     private List<int[]> hunks = new ArrayList<>();
@@ -22,7 +22,8 @@ final class PlainModel {
         return rows.get(row);
     }
 
-    int put(int row, int line) {
+    @Override
+    public int put(int row, int line) {
         if (row(row).size() == 60) {
             throw new UnsupportedOperationException();
         }
@@ -30,16 +31,19 @@ final class PlainModel {
         return row(row).size();
     }
 
-    int clear(int row) {
+    @Override
+    public int clear(int row) {
         row(row).clear();
         return 0;
     }
 
-    int size(int row) {
+    @Override
+    public int size(int row) {
         return row(row).size();
     }
 
-    int get(int row, int k) {
+    @Override
+    public int get(int row, int k) {
         List<Integer> lines = row(row);
         if (k < 0 || k >= lines.size()) {
             throw new IndexOutOfBoundsException();
@@ -47,25 +51,30 @@ final class PlainModel {
         return lines.get(k);
     }
 
-    int common(int a, int b) {
+    @Override
+    public int common(int a, int b) {
         pairs = commonOf(row(a), row(b));
         return pairs.size();
     }
 
-    int pair(int k, int side) {
+    @Override
+    public int pair(int k, int side) {
         return cell(pairs, k, side, 2);
     }
 
-    int hunks(int a, int b) {
+    @Override
+    public int hunks(int a, int b) {
         hunks = hunksOf(row(a), row(b));
         return hunks.size();
     }
 
-    int hunk(int k, int what) {
+    @Override
+    public int hunk(int k, int what) {
         return cell(hunks, k, what, 4);
     }
 
-    int conflict(int k, int what) {
+    @Override
+    public int conflict(int k, int what) {
         return cell(conflicts, k, what, 3);
     }
 
@@ -129,7 +138,8 @@ final class PlainModel {
         return found;
     }
 
-    int merge(int base, int left, int right, int to) {
+    @Override
+    public int merge(int base, int left, int right, int to) {
         List<Integer> o = row(base);
         List<Integer> l = row(left);
         List<Integer> r = row(right);
@@ -178,7 +188,8 @@ final class PlainModel {
     }
 
     /** The hunks are done from the last one to the first one, so that places in c stay. */
-    int patch(int a, int b, int c, int to) {
+    @Override
+    public int patch(int a, int b, int c, int to) {
         List<Integer> oldRow = row(a);
         List<Integer> newRow = row(b);
         List<Integer> out = new ArrayList<>(row(c));
@@ -230,7 +241,8 @@ final class PlainModel {
         return stands && ahead && behind;
     }
 
-    int commit(int row) {
+    @Override
+    public int commit(int row) {
         List<Integer> copied = new ArrayList<>(row(row));
         if (versions.size() == 30) {
             throw new UnsupportedOperationException();
@@ -239,7 +251,8 @@ final class PlainModel {
         return versions.size() - 1;
     }
 
-    int origin(int version, int k) {
+    @Override
+    public int origin(int version, int k) {
         if (version < 0 || version >= versions.size()) {
             throw new IllegalArgumentException();
         }

@@ -13,7 +13,7 @@ public final class RowsTest {
     }
 
     private static void newObject(Check check) {
-        MergeRows x = new MergeRows();
+        Counted x = new Counted();
         for (int row = 0; row < 6; row++) {
             int asked = row;
             check.same("new size", x.size(row), 0);
@@ -31,7 +31,7 @@ public final class RowsTest {
     }
 
     private static void putAndGet(Check check) {
-        MergeRows x = new MergeRows();
+        Counted x = new Counted();
         for (int row = 0; row < 6; row++) {
             check.same("first put", x.put(row, row * 10), 1);
             check.same("second put", x.put(row, Integer.MIN_VALUE + row), 2);
@@ -48,7 +48,7 @@ public final class RowsTest {
     }
 
     private static void fullRow(Check check) {
-        MergeRows x = new MergeRows();
+        Counted x = new Counted();
         for (int k = 0; k < 60; k++) {
             check.same("put", x.put(2, 100 + k), k + 1);
         }
@@ -61,7 +61,7 @@ public final class RowsTest {
     }
 
     private static void clearing(Check check) {
-        MergeRows x = new MergeRows();
+        Counted x = new Counted();
         Check.fill(x, 0, 1, 2, 3);
         Check.fill(x, 1, 4, 5);
         x.clear(0);
@@ -76,7 +76,7 @@ public final class RowsTest {
     }
 
     private static void wrongRows(Check check) {
-        MergeRows x = new MergeRows();
+        Counted x = new Counted();
         for (int row : NO_ROWS) {
             check.refused("put", Check.NO_ARGUMENT, () -> x.put(row, 1));
             check.refused("clear", Check.NO_ARGUMENT, () -> {

@@ -10,14 +10,14 @@ public final class VersionsTest {
         check.finish();
     }
 
-    private static void committed(Check check, MergeRows x, int version, String origins, int... lines) {
+    private static void committed(Check check, Counted x, int version, String origins, int... lines) {
         Check.fill(x, 3, lines);
         check.same("version", x.commit(3), version);
         check.same("origins", Check.asked(1, lines.length, (k, what) -> x.origin(version, what)), origins);
     }
 
     private static void origins(Check check) {
-        MergeRows x = new MergeRows();
+        Counted x = new Counted();
         committed(check, x, 0, "0,0,0", 1, 2, 3);
         committed(check, x, 1, "0,1,0", 1, 9, 3);
         committed(check, x, 2, "2,0,1,0", 4, 1, 9, 3);
@@ -31,7 +31,7 @@ public final class VersionsTest {
     }
 
     private static void copies(Check check) {
-        MergeRows x = new MergeRows();
+        Counted x = new Counted();
         Check.fill(x, 0, 1, 2);
         Check.fill(x, 1, 2, 5);
         check.same("row 0", x.commit(0), 0);
@@ -43,7 +43,7 @@ public final class VersionsTest {
     }
 
     private static void emptyVersionBetween(Check check) {
-        MergeRows x = new MergeRows();
+        Counted x = new Counted();
         committed(check, x, 0, "0,0", 1, 2);
         committed(check, x, 1, "");
         check.refused("an empty version", Check.NO_INDEX, () -> x.origin(1, 0));
@@ -51,7 +51,7 @@ public final class VersionsTest {
     }
 
     private static void thirtyVersions(Check check) {
-        MergeRows x = new MergeRows();
+        Counted x = new Counted();
         for (int version = 0; version < 30; version++) {
             x.put(0, 100 + version);
             check.same("version", x.commit(0), version);
@@ -63,7 +63,7 @@ public final class VersionsTest {
         check.refused("no such row ahead of no room", Check.NO_ARGUMENT, () -> x.commit(6));
         check.refused("version 30", Check.NO_ARGUMENT, () -> x.origin(30, 0));
         check.same("still there", x.origin(29, 29), 29);
-        MergeRows y = new MergeRows();
+        Counted y = new Counted();
         Check.fill(y, 5, Check.rising(0, 60));
         for (int version = 0; version < 30; version++) {
             check.same("a full version", y.commit(5), version);
@@ -73,7 +73,7 @@ public final class VersionsTest {
     }
 
     private static void wrongInputs(Check check) {
-        MergeRows x = new MergeRows();
+        Counted x = new Counted();
         Check.fill(x, 0, 1, 2);
         for (int row : new int[] {-1, 6, Integer.MIN_VALUE, Integer.MAX_VALUE}) {
             check.refused("commit", Check.NO_ARGUMENT, () -> x.commit(row));
