@@ -5,6 +5,7 @@ public final class CommonEdgeTest {
         commonNoSuchRow(check);
         commonOfEmptyRows(check);
         commonOfFullRows(check);
+        commonOfShorterRowsLater(check);
         commonAsManyAsThereCanBe(check);
         commonFirstInA(check);
         commonFirstInB(check);
@@ -82,6 +83,24 @@ public final class CommonEdgeTest {
         check.same("full and a row of one", pairs(new int[60], row(0)), "0,0");
         check.same("a row of one and full", pairs(row(0), new int[60]), "0,0");
         check.same("full and 59", filled(new int[60], new int[59]).common(0, 5), 59);
+    }
+
+    /** Of what longer rows had in common before, nothing is left. */
+    private static void commonOfShorterRowsLater(Check check) {
+        for (int length = 1; length <= 12; length++) {
+            Counted x = filled(new int[length], new int[length]);
+            check.same("before", x.common(0, 5), length);
+            Check.fill(x, 0, 3, 1, 2, 1);
+            Check.fill(x, 5, 1, 2, 3);
+            check.same("later", Check.asked(x.common(0, 5), 2, x::pair), "1,0 2,1");
+            check.same("the other way", Check.asked(x.common(5, 0), 2, x::pair), "0,1 1,2");
+            Check.fill(x, 0, 2, 3, 1);
+            Check.fill(x, 5, 1, 2);
+            check.same("shorter still", Check.asked(x.common(0, 5), 2, x::pair), "0,1");
+            check.same("the other way", Check.asked(x.common(5, 0), 2, x::pair), "0,2");
+            x.clear(5);
+            check.same("empty", x.common(0, 5) + x.common(5, 0), 0);
+        }
     }
 
     /** "as many as there can be": also where that leaves a's first line out. */

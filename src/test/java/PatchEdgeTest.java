@@ -201,6 +201,10 @@ public final class PatchEdgeTest {
         due[58] = 99;
         done(check, full, due, full, due);
         refused(check, full, due, Check.rising(0, 59));
+        // A line that c had, but has no more.
+        Counted x = filled(row(1, 7), row(9, 7), row(1, 7));
+        Check.fill(x, 2, 1);
+        patched(check, x, 1, 1);
     }
 
     /** A hunk without lines of a has a place, too, with the lines round it. */
@@ -305,6 +309,11 @@ public final class PatchEdgeTest {
         patched(check, filled(a, b, row(1, 0, 2, 0, 3, 30, 4)), 2, 1, 0, 2, 0, 3, 31, 4);
         patched(check, filled(a, b, row(1, 0, 2, 0, 3, 0, 4)), 3, 1, 0, 2, 0, 3, 0, 4);
         patched(check, filled(a, b, row()), 3);
+        Counted again = filled(a, b, row(1, 0, 2, 0, 3, 0, 4));
+        for (int round = 0; round < 3; round++) {
+            patched(check, again, 3, 1, 0, 2, 0, 3, 0, 4);
+            check.same("each call counts its own", again.patch(0, 1, 0, 3), 0);
+        }
         Counted x = new Counted();
         for (int k = 0; k < 40; k++) {
             x.put(k % 2, 100 + k);

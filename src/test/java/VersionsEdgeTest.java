@@ -176,6 +176,12 @@ public final class VersionsEdgeTest {
             check.same("its line", x.origin(version, 0), 0);
             x.put(0, version);
         }
+        Counted full = new Counted();
+        Check.fill(full, 0, Check.rising(0, 60));
+        for (int version = 0; version < 30; version++) {
+            check.same("a full version", full.commit(0), version);
+            check.same("its first and last line", full.origin(version, 0) + "," + full.origin(version, 59), "0,0");
+        }
         check.same("the oldest and the newest", x.origin(29, 0) + "," + x.origin(29, 29), "0,29");
         check.same("of version 15", x.origin(15, 0) + "," + x.origin(15, 15), "0,15");
     }
