@@ -74,6 +74,19 @@ final class Check {
         }
     }
 
+    static int[] row(int... lines) {
+        return lines;
+    }
+
+    /** A new object whose rows 0, 1, .. have these lines. */
+    static Counted filled(int[]... rows) {
+        Counted x = new Counted();
+        for (int row = 0; row < rows.length; row++) {
+            fill(x, row, rows[row]);
+        }
+        return x;
+    }
+
     static int[] read(Face x, int row) {
         int[] lines = new int[x.size(row)];
         for (int k = 0; k < lines.length; k++) {

@@ -22,7 +22,7 @@ public final class RowsEdgeTest {
         check.finish();
     }
 
-    /** "All rows are empty". */
+    /** "All rows are empty", and in Terms 1 "empty at first". */
     private static void newRowsAreEmpty(Check check) {
         Counted x = new Counted();
         for (int k = 0; k < 6; k++) {
@@ -97,7 +97,7 @@ public final class RowsEdgeTest {
         }
     }
 
-    /** put: "UnsupportedOperationException if it has 60". */
+    /** put: "UnsupportedOperationException if it has 60", as a row is "of up to 60 LINES". */
     private static void putSixtyLines(Check check) {
         for (int k = 0; k < 6; k++) {
             int row = k;
