@@ -100,6 +100,7 @@ public final class PatchTest {
         int[] cumulative = row(0, 0, 0, 0, 1, 10, 2, 20, 3, 3, 30, 4, 3, 30, 4);
         patched(check, filled(three, threeNew, cumulative), 0, 0, 0, 0, 0, 1, 11, 2, 21, 3, 3, 31, 4, 3, 30, 4);
         offCountsFromA(check);
+        rejectedLeavesOff(check);
     }
 
     /** The second hunk lies where it is wanted; the third one fits near its place in a, too. */
@@ -108,6 +109,14 @@ public final class PatchTest {
         int[] b = row(1, 11, 2, 21, 3, 0, 0, 0, 0, 4, 31, 5);
         int[] c = row(8, 8, 8, 8, 1, 10, 2, 20, 3, 4, 30, 5, 0, 4, 30, 5);
         patched(check, filled(a, b, c), 0, 8, 8, 8, 8, 1, 11, 2, 21, 3, 4, 30, 5, 0, 4, 31, 5);
+    }
+
+    /** The second hunk is rejected; the third one is wanted 4 lines on, as the first one was off, and fits twice. */
+    private static void rejectedLeavesOff(Check check) {
+        int[] a = row(1, 10, 2, 20, 3, 0, 0, 0, 0, 4, 30, 5);
+        int[] b = row(1, 11, 2, 21, 3, 0, 0, 0, 0, 4, 31, 5);
+        int[] c = row(8, 8, 8, 8, 1, 10, 2, 7, 3, 4, 30, 5, 0, 4, 30, 5);
+        patched(check, filled(a, b, c), 1, 8, 8, 8, 8, 1, 11, 2, 7, 3, 4, 30, 5, 0, 4, 31, 5);
     }
 
     private static void notAheadOfTheLast(Check check) {
